@@ -12,6 +12,7 @@ public final class FaultTest {
         weatherAndDelay();
         treaties();
         nesting();
+        cut();
         T.end();
     }
 
@@ -43,6 +44,7 @@ public final class FaultTest {
         bad("deed 0 0;\u0000", 1, 9);
         bad("deed 0 0,", 1, 8);
         bad("deeds 0 0;", 1, 0);
+        bad("feed 0 0;", 1, 0);
         bad("dee d 0 0;", 1, 0);
         bad("deed 00000 0;", 2, 5);
         bad("deed 0 0000000000000000000;", 2, 7);
@@ -164,6 +166,12 @@ public final class FaultTest {
         expr("1=2<3;", 1, 3);
         expr("1=2 and 3=4 or not 5<6;", 0, 0);
         expr("sun;", 3, 0);
+        expr("say;", 3, 0);
+        expr("z;", 3, 0);
+        expr("a;", 3, 0);
+        expr("dayz;", 3, 0);
+        expr("{", 1, 0);
+        expr("`", 1, 0);
         expr("or;", 3, 0);
         expr("1 or;", 1, 4);
         expr("1 or or 1;", 3, 5);
@@ -202,5 +210,29 @@ public final class FaultTest {
         expr("not not not not not not (not not not not not not 1);", 0, 0);
         expr("not not not not not not 1 and not not not not not not 1;", 0, 0);
         expr("not not not (not not not not not not not 1);", 2, 37);
+    }
+
+    /** What stands on the tape behind the first n bytes is no part of the text. */
+    private static void cut() {
+        cut("treaty 1 and 1;", 11, 1, 9);
+        cut("weather 12;", 9, 1, 9);
+        cut("deed 0 0;deed", 9, 0, -1);
+        cut("deed 0 0;;", 9, 0, -1);
+        cut("treaty day;", 8, 3, 7);
+        String sum = "treaty " + "1+".repeat(346) + "1";
+        cut(sum, 700, 1, 700);
+        cut(sum.substring(0, 699) + ";", 700, 1, 699);
+        cut(sum.substring(0, 698) + " ;", 700, 0, -1);
+        cut(sum.substring(0, 698) + ";;", 700, 1, 699);
+        cut(" ".repeat(700), 700, 0, -1);
+        cut(" ".repeat(699) + "a", 700, 1, 699);
+    }
+
+    private static void cut(String tape, int n, int kind, int place) {
+        OppositeShores x = new OppositeShores();
+        Tell.feed(x, tape);
+        String end = tape.substring(Math.max(0, n - 20));
+        T.is("first " + n + " up to [" + end + "]", x.shores(n), kind);
+        T.is("place in the first " + n + " up to [" + end + "]", x.fault(), place);
     }
 }

@@ -25,6 +25,7 @@ public final class PromiseTest {
         newObject();
         feed();
         shores();
+        shoresTwice();
         fault();
         count();
         deed();
@@ -126,6 +127,24 @@ public final class PromiseTest {
         T.is("3 opposite of itself", x.deed(0, 2), 0);
         T.is("3 nothing at all", x.shores(0), 0);
         T.is("3 no deeds", x.count(0), 0);
+    }
+
+    /** Nothing of a text is left when another is told. */
+    private static void shoresTwice() {
+        OppositeShores x = Tell.told("deed 0 0;deed 1 1;opposite 0 1;pair 0 0;weather 1;delay 0;"
+                + "treaty 0;treaty 0;");
+        T.row("3 first", i -> x.does(0, 1, i), 0, 0, 0);
+        Tell.tell(x, "deed 0 0;deed 1 1;opposite 0 1;pair 0;weather 0 0;delay 2;treaty 1;");
+        T.row("3 second", i -> x.does(0, 1, i), 0, 0, 1);
+        T.is("3 even", x.even(), 0);
+        T.is("3 poorest", x.poorest(1), 0);
+        T.row("3 counts", x::count, 2, 1, 2, 2, 1, 0);
+        Tell.tell(x, "deed 0 0;deed 0 2;opposite 1 0;opposite 0 1;pair 0;treaty day=1;");
+        T.row("3 third", i -> x.does(0, 1, i), 0, 0, 1, 0);
+        T.row("3 counts", x::count, 2, 1, 0, 1, 1, 0);
+        x.delay(0);
+        T.row("3 stores", i -> x.store(1, i), 0, 2, 2);
+        T.is("3 even", x.even(), 0);
     }
 
     private static void fault() {
@@ -237,6 +256,13 @@ public final class PromiseTest {
         treaty("(0-1) or 0", 3, 3, 3, 3, 3, 3);
         // -1027349969 by 3, 2, 4, each wrapped: 1212917389, -2054699938, 185567420.
         treaty("9999*9999*9999*(deed+2)", 3, 3, 0, 3, 3, 3);
+        treaty("(1 and 9)=1", 3, 3, 3, 3, 3, 3);
+        treaty("(0 or 9)=1", 3, 3, 3, 3, 3, 3);
+        treaty("(4<9)=1", 3, 3, 3, 3, 3, 3);
+        treaty("(9=9)=1", 3, 3, 3, 3, 3, 3);
+        treaty("(not 0)=1", 3, 3, 3, 3, 3, 3);
+        treaty("(not 9)=0", 3, 3, 3, 3, 3, 3);
+        treaty("again=1", 0, 3, 0, 0, 3, 0);
         treaty("1<day=0", -1);
         treaty("(1<day)=0", 3, 3, 0, 0, 0, 0);
         treaty("1=deed+0", 3, 3, 0, 0, 0, 3);
@@ -413,6 +439,9 @@ public final class PromiseTest {
         y.shirk(0, true);
         T.row("19 clear days", i -> y.fines(0, i), 0, 0, 1, 1, 2);
         T.is("19 all clear days", y.fines(0, 100), 50);
+        OppositeShores z = Tell.told("deed 0 0;deed 0 0;opposite 0 1;pair 0;delay 0;");
+        z.shirk(0, true);
+        T.row("19 day 0", i -> z.fines(0, i), 0, 1, 2);
         T.none("19 pair", () -> x.fines(2, 101));
         T.illegal("19 days", () -> x.fines(0, 101));
         T.illegal("19 days", () -> x.fines(0, -1));
@@ -485,6 +514,11 @@ public final class PromiseTest {
         T.row("23 row", z::planned, 1, 1);
         T.is("23 days count", z.plan(0, 3), 4);
         T.is("23 not on day 4", z.plan(0, 4), -1);
+        // The second treaty demands something of pair 1 alone.
+        OppositeShores w = Tell.told("deed 0 0;deed 0 1;pair 0;pair 0;delay 0;treaty 0;treaty pair=1;");
+        w.sign(1);
+        T.is("23 of pair 1", w.plan(1, 1), 1);
+        T.is("23 of pair 0", w.plan(0, 1), -1);
         T.is("23 at the most", Tell.told("deed 0 20;pair 0;delay 0;").plan(0, 100), 5);
         T.is("23 at the least", Tell.told("deed 0 -20;pair 0;delay 0;").plan(0, -100), 5);
         T.none("23 pair", () -> x.plan(2, 101));
@@ -525,6 +559,13 @@ public final class PromiseTest {
                 + "treaty not again;");
         // Day 0: 3 and 3; day 1 is one of fog: idle here, 3 there; day 2: 3 and 3; day 3: again.
         T.row("25 fog, again", i -> z.well(0, i + 1), 6, 12, 15, 21);
+        // On day 0 nothing is done again: deed 7 alone, and not 5 here and 9 there.
+        OppositeShores w = Tell.told("deed 0 0;" + "deed 5 0;".repeat(6) + "deed 9 0;opposite 0 7;"
+                + "opposite 1 7;opposite 2 7;opposite 3 7;opposite 4 7;opposite 5 7;opposite 6 7;"
+                + "pair 0;pair 0;delay 0;treaty again or pair;");
+        T.is("25 not again on day 0", w.well(0, 1), 9);
+        T.is("25 again on day 1", w.well(0, 2), 27);
+        T.is("25 of pair 1", w.well(1, 1), 18);
         T.none("25 pair", () -> x.well(2, 0));
         T.illegal("25 no day", () -> x.well(0, 0));
         T.illegal("25 seven", () -> x.well(0, 7));
@@ -546,6 +587,10 @@ public final class PromiseTest {
         OppositeShores z = Tell.told("deed 0 0;deed 9 0;deed 1 0;opposite 2 1;opposite 1 2;pair 1;pair 2;"
                 + "delay 0;treaty not (pair=1 and deed=2) or deed=2;");
         T.row("26 one would lose", i -> z.exchange(5, i - 1), 50, 0, 1);
+        // Ways of unlike lengths: in three days the first brings 9, 1, 1, the second 9, 9, 9.
+        OppositeShores w = Tell.told("deed 0 0;deed 9 0;deed 1 0;pair 1 2 2;pair 1;pair 0;delay 0;"
+                + "treaty not pair=1;");
+        T.row("26 lengths", i -> w.exchange(3, i - 1), 27 + 11, 0, 2, 1);
         T.none("26 pair", () -> x.exchange(101, 3));
         T.none("26 pair", () -> x.exchange(5, -2));
         T.illegal("26 days", () -> x.exchange(101, 0));
@@ -670,6 +715,8 @@ public final class PromiseTest {
         OppositeShores y = Tell.told("deed 0 0;deed 0 0;deed -5 0;opposite 1 2;pair 1;"
                 + "treaty 1;treaty 0;treaty 0;");
         T.is("34 the first of like ones", y.best(), 1);
+        OppositeShores w = Tell.told("deed 0 0;deed 0 0;deed -5 0;opposite 1 2;pair 1;treaty 0;");
+        T.is("34 the very first", w.best(), 0);
         OppositeShores z = Tell.told("deed 0 0;deed 0 0;deed -5 0;opposite 1 2;pair 1;"
                 + "treaty 1;treaty day<2;treaty day<1;");
         T.is("34 the last", z.best(), 2);
@@ -686,6 +733,8 @@ public final class PromiseTest {
         // What is done on day 98 is answered in time by a delay of 0 or 1, and brings nothing good.
         OppositeShores z = Tell.told("deed 0 0;deed 0 -1;opposite 0 1;pair 0;treaty day=98;");
         T.is("35 the least of like ones", z.delayed(), 2);
+        OppositeShores w = Tell.told("deed 0 0;deed 0 -1;opposite 0 1;pair 0;delay 3;treaty day=99;");
+        T.is("35 one", w.delayed(), 1);
     }
 
     private static void harms() {
@@ -720,6 +769,11 @@ public final class PromiseTest {
         x.shirk(1, true);
         // The double of pair 1 gains nothing: deed 2 is worth -2 to it, less than 6 less 5.
         T.row("37 shirker", i -> x.game(0, 1, 3, 32, i), 2, 0);
+        // Pair 0 leaves deed 1, if both do it, pair 1 doesn't: 3 less 5 is no less than -2.
+        T.row("37 one of them leaves", i -> x.game(0, 1, 3, 12, i), 2, 1);
+        T.row("37 the other one leaves", i -> x.game(1, 0, 3, 12, i), 2, 1);
+        T.row("37 both idle", i -> x.game(0, 1, 3, 0, i), 4, 0);
+        T.none("37 pair", () -> x.game(-1, 1, 0, 12, 0));
         T.none("37 pair", () -> x.game(2, 2, 0, 12, 0));
         T.none("37 pair", () -> x.game(0, -1, 0, 12, 0));
         T.none("37 day", () -> x.game(0, 0, 100, 12, 0));
@@ -894,7 +948,7 @@ public final class PromiseTest {
         x.undo();
         x.undo();
         x.undo();
-        x.change(0, 1, 0);
+        x.change(0, 0, 0);
         x.delay(3);
         x.sign(1);
         x.turn(0);
@@ -914,5 +968,20 @@ public final class PromiseTest {
         T.is("49 acts", x.count(6), 0);
         T.is("49 acts", x.undo(), 0);
         T.is("49 acts", x.fog(1), false);
+        restoreSeen();
+    }
+
+    private static void restoreSeen() {
+        OppositeShores x = Tell.told(PLAIN);
+        x.see(0, 1, 2);
+        x.see(1, 1, 1);
+        x.image();
+        x.forget();
+        x.see(1, 50, 3);
+        x.see(0, 60, 3);
+        T.is("49 other things seen", x.falsely(), 2);
+        x.restore();
+        T.is("49 seen as it was", x.falsely(), 0);
+        T.is("49 seen as it was", x.did(0, 0), 2);
     }
 }
