@@ -41,6 +41,10 @@ final class Tell {
         return shores;
     }
 
+    int checks() {
+        return checks;
+    }
+
     void is(String what, Object got, Object due) {
         checks++;
         if (!got.equals(due)) {
