@@ -97,6 +97,8 @@ final class CallEdges {
             e.is("none of a tape", x.shores(0), 0);
             e.is("empty", x.count(9), 0);
             e.is("no deeds", x.count(0), 0);
+            cutWithin();
+            toldAnew();
         });
         e.test("0, or the FAULT (all stays).", this::faultChangesNothing);
         e.test("ACTS, what is SEEN, rows that are kept, the image are gone (STATUS stays).", () -> {
@@ -136,6 +138,38 @@ final class CallEdges {
             Tell.tell(x, "");
             e.is("without", x.fault(), -1);
         });
+    }
+
+    /** A word or a number ends where the first n bytes end. */
+    private void cutWithin() {
+        OppositeShores x = new OppositeShores();
+        Tell.feed(x, "treaty day;");
+        e.is("of a word", x.shores(9) + " at " + x.fault(), "3 at 7");
+        Tell.feed(x, "treaty days;");
+        e.is("a word", x.shores(10) + " at " + x.fault(), "1 at 10");
+        Tell.feed(x, "weather 12;");
+        e.is("of a number", x.shores(9) + " at " + x.fault(), "1 at 9");
+        Tell.feed(x, "treaty 12345");
+        e.is("of a long number", x.shores(11) + " at " + x.fault(), "1 at 11");
+    }
+
+    /** Nothing of the text ahead counts in the next one, nor does what was found by it. */
+    private void toldAnew() {
+        String text = "deed 0 0;deed 0 1;opposite 0 1;pair 0;weather 0;delay 0;treaty ";
+        OppositeShores x = new OppositeShores();
+        e.is("first", Tell.tell(x, text + "day=1;treaty 0;"), 0);
+        e.row("first", i -> x.does(0, 1, i), 0, 1, 0);
+        e.is("second", Tell.tell(x, text + "not day=1;"), 0);
+        e.row("second", i -> x.does(0, 1, i), 1, 0, 1);
+        e.is("a fault", Tell.tell(x, text + "1;opposite 1 0;weather 0;"), 5);
+        e.row("second still", i -> x.does(0, 1, i), 1, 0, 1);
+        e.is("third", Tell.tell(x, text + "2<day;treaty 1;treaty 1;"), 0);
+        e.row("third", i -> x.does(0, 1, i), 0, 0, 0, 1);
+        e.row("counts", x::count, 2, 1, 1, 0, 3, 0);
+        e.is("fourth", Tell.tell(x, "deed 0 0;pair 0 0;"), 0);
+        e.is("its way", x.way(0, -1), 2);
+        e.is("its delay", x.must(0, 0), -1);
+        e.row("counts", x::count, 1, 1, 0, 1, 0, -1);
     }
 
     /** An object of TEXT that has acts, shirkers, things seen, a row, an image, refused calls. */
@@ -605,6 +639,13 @@ final class CallEdges {
             e.is("in force still", x.count(5), 0);
             e.is("where there is none", Tell.told("").best(), -1);
         });
+        e.promise(35);
+        e.test("DELAYED.", () -> {
+            OppositeShores x = Tell.told("deed 0 1;deed 0 0;opposite 0 1;pair 0;");
+            e.is("delayed", x.delayed(), 3);
+            e.is("the delay stays", x.count(3) + " " + x.count(7), "1 0");
+            e.is("no pairs", Tell.told("").delayed(), 0);
+        });
         e.promise(36);
         e.test("HARMS; NONE: none.", () -> {
             e.is("none", Tell.told("").harms(), -1);
@@ -666,6 +707,11 @@ final class CallEdges {
     }
 
     private void rest() {
+        e.promise(39);
+        e.test("A RING.", () -> {
+            OppositeShores x = Tell.told("deed 0 0;deed 0 0;deed 0 0;opposite 1 2;opposite 2 1;");
+            e.row("ring", x::ring, 1, 2, 2);
+        });
         e.promise(40);
         e.test("IDLE: the one HERE (side 0), THERE (1). NoSuchElementException: also another side.", () -> {
             OppositeShores x = Tell.told(TEXT);
@@ -784,5 +830,33 @@ final class CallEdges {
         x.restore();
         e.is("status isn't restored", x.count(11) + " " + x.count(12), "12 6");
         e.is("the row is kept", Edges.plan(x), plan);
+        fewerActs();
+    }
+
+    /** Behind the image other acts, at other places, and other things seen. */
+    private void fewerActs() {
+        OppositeShores x = Tell.told(TEXT);
+        x.change(1, 2, 0);
+        x.turn(2);
+        x.see(0, 1, 1);
+        x.image();
+        x.undo();
+        x.undo();
+        x.change(0, 0, 1);
+        x.change(1, 0, 1);
+        x.turn(0);
+        x.forget();
+        x.see(1, 50, 0);
+        x.see(1, 51, 0);
+        e.is("restored", x.restore(), true);
+        e.is("acts", x.count(7), 2);
+        e.is("seen", x.count(8), 1);
+        e.is("it is so", x.falsely(), 0);
+        e.is("what he did", x.did(0, 0), 3);
+        x.undo();
+        e.row("weather", i -> x.fog(i) ? 1 : 0, 0, 0, 1);
+        x.undo();
+        e.row("way", i -> x.way(1, i), 0, 1, 1);
+        e.is("none is left", x.undo(), -1);
     }
 }

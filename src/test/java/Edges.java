@@ -5,20 +5,13 @@ import java.nio.file.Path;
 import java.util.NoSuchElementException;
 import java.util.function.IntFunction;
 import java.util.function.Supplier;
-import java.util.regex.Matcher;
-import java.util.regex.Pattern;
 
 /**
  * Tests that each belong to one sentence (or part of one) of the document. A sentence is quoted as
  * it stands there, under its heading; one that isn't there, or whose test looks at nothing, is
- * wrong. What no test quotes is looked through for words by which the document names an edge.
+ * wrong. So is a word of the document that no test quotes.
  */
 final class Edges {
-    /** Words that name what is too small, too large, empty, full, alike, wrapped or refused. */
-    private static final Pattern NAMES_AN_EDGE = Pattern.compile("at most|NONE|[Nn]one|no such|Exception"
-            + "|\\d to \\d|MOD|wrap|without|least|first|latest|most|below|empty|refused|more|behind|ahead"
-            + "|within|another|already|also|nothing|too|only|all|STATUS|gone|forgotten|else|end|bits");
-
     private final Tell tell;
     private final String document;
     private final boolean[] quoted;
@@ -181,21 +174,18 @@ final class Edges {
         return plan.append(" and more").toString();
     }
 
-    /** No sentence that names an edge may be left without a test. */
+    /** No word of the document between these headings may be left without a test. */
     void nothingLeft(String first, String behindLast) {
         int at = document.indexOf(first);
         int end = document.indexOf(behindLast);
         tell.is("the document has its headings", at >= 0 && end > at, true);
         StringBuilder left = new StringBuilder();
         for (; at < end; at++) {
-            left.append(quoted[at] ? '|' : document.charAt(at));
+            left.append(quoted[at] ? ' ' : document.charAt(at));
         }
-        // Between these marks stand the calls' heads, which FaceTest looks at.
-        for (String part : left.toString().replaceAll("`[^`\n]+`", "").split("\\|+|\n")) {
-            boolean isHeading = part.startsWith("#");
-            Matcher edge = NAMES_AN_EDGE.matcher(part);
-            tell.is("[" + part + "] names an edge and has no test", !isHeading && edge.find(), false);
-        }
+        // Headings, marks and the calls' heads (FaceTest looks at these) promise nothing.
+        String words = left.toString().replaceAll("## [^\n]*|`[^`\n]+`|```text|The constants", "");
+        tell.is("words without a test", words.replaceAll("[^A-Za-z]+", " ").strip(), "");
     }
 
     void end() {

@@ -193,7 +193,64 @@ final class TermEdges {
             e.is("no fog", x.does(0, 1, 0), 1);
             x.undo();
             e.is("delay 1", x.does(0, 1, 0), 0);
+            OppositeShores y = Tell.told("deed 0 0;deed 0 0;opposite 0 1;pair 0 0;delay 0;treaty again;");
+            e.row("again", i -> y.does(0, 1, i), 0, 1, 1, 1);
+            y.change(0, 0, 1);
+            e.row("never again", i -> y.does(0, 1, i), IDLE_FOUR);
+            y.undo();
+            e.row("again as ahead of it", i -> y.does(0, 1, i), 0, 1, 1, 1);
+            asIfTold();
         });
+    }
+
+    /** By acts all answers become those of another text, and by undoing them those of the first. */
+    private void asIfTold() {
+        String deeds = "deed 1 2;deed 3 -1;deed -2 4;deed 0 1;opposite 0 1;opposite 1 2;opposite 2 3;";
+        String treaties = "treaty not again;treaty deed<2 or day/4*4=day;";
+        OppositeShores x = Tell.told(deeds + treaties + "pair 1 2 0;pair 3 1;weather 0 0 1 0;delay 2;");
+        OppositeShores y = Tell.told(deeds + treaties + "pair 1 2 3;pair 2 1;weather 1 0 1 1;delay 0;");
+        y.sign(1);
+        y.shirk(1, true);
+        String first = answers(x);
+        x.change(0, 2, 3);
+        x.change(1, 0, 2);
+        x.turn(0);
+        x.turn(3);
+        x.delay(0);
+        x.sign(1);
+        x.shirk(1, true);
+        e.is("all answers by acts", answers(x), answers(y));
+        for (int i = 0; i < 7; i++) {
+            x.undo();
+        }
+        e.is("all answers, undone", answers(x), first);
+    }
+
+    /** What an object of two pairs and four deeds answers to all kinds of questions. */
+    private static String answers(OppositeShores x) {
+        x.forget();
+        x.see(0, 3, x.does(0, 1, 3));
+        x.see(1, 5, x.does(1, 1, 5));
+        StringBuilder all = new StringBuilder();
+        for (int pair = 0; pair < 2; pair++) {
+            all.append(x.gained(pair, 0, 100)).append(' ').append(x.gained(pair, 1, 77)).append(' ')
+                    .append(x.fines(pair, 100)).append(' ').append(x.unanswered(pair)).append(' ')
+                    .append(x.plan(pair, 7)).append(Edges.plan(x)).append(' ').append(x.well(pair, 5)).append(' ')
+                    .append(x.did(pair, 3)).append(' ').append(x.morning(pair, 4, 0)).append(' ')
+                    .append(x.morning(pair, 4, 1)).append(' ').append(x.idle(pair, 1)).append(' ')
+                    .append(x.stop(pair)).append(' ').append(x.swap(pair)).append(' ').append(x.year(pair)).append(' ')
+                    .append(x.poorest(pair)).append(' ').append(x.store(pair, 50)).append(' ');
+        }
+        all.append(x.even()).append(' ').append(x.exchange(100, -1)).append(x.exchange(100, 0)).append(' ')
+                .append(x.found()).append(' ').append(x.compared(-1)).append(' ').append(x.compared(0)).append(' ')
+                .append(x.compared(1)).append(' ').append(x.best()).append(' ').append(x.delayed()).append(' ')
+                .append(x.harms()).append(' ').append(x.game(0, 1, 7, 12, 0)).append(x.game(0, 1, 7, 12, 1)).append(' ')
+                .append(x.years(9, 99, 0)).append(' ').append(x.years(9, 99, 2)).append(' ').append(x.waves(9)).append(' ')
+                .append(x.ruined()).append(' ').append(x.spell(0)).append(x.spell(1)).append(' ');
+        for (int deed = 0; deed < 4; deed++) {
+            all.append(x.helps(deed)).append(' ');
+        }
+        return all.toString();
     }
 
     // ---- sums and plans
@@ -236,6 +293,12 @@ final class TermEdges {
             e.is("the last day", Tell.told(late + "treaty day=0 or day=99;").even(), 99);
             e.is("none", Tell.told(late + "treaty day=0;").even(), -1);
             e.is("the first of some", Tell.told(late).even(), 1);
+            // Here 3 5 8 .., there 1 5 6 ..; the second time it is as the first time.
+            OppositeShores x = Tell.told("deed 0 1;deed 0 3;deed 0 2;deed 0 4;opposite 1 0;opposite 2 3;pair 1 2;delay 0;");
+            e.row("day 1", i -> x.even(), 1, 1);
+            x.delay(1);
+            // There 1 2 6 7 11: less than 3 5 8 10 13 for ever.
+            e.row("none", i -> x.even(), -1, -1);
         });
         e.test("POOREST: the DAY at whose end a STORE is least (the first such one).", () -> {
             OppositeShores x = Tell.told(late + "treaty day=0 or day=99;");
@@ -244,6 +307,12 @@ final class TermEdges {
             e.is("the first of some", Tell.told(late).poorest(1), 1);
             e.is("no pairs", Tell.told("").poorest(1), 0);
             e.is("above 0 on all days", Tell.told("deed 0 5;pair 0;").poorest(0), 0);
+            // Here 2 -1 1 -2 .. down to day 99, there for each deed the other one: 0 on day 0, then up.
+            OppositeShores y = Tell.told("deed 0 0;deed 0 2;deed 0 -3;opposite 1 1;opposite 2 1;pair 1 2;");
+            e.row("here and there", y::poorest, 99, 0);
+            e.row("once more", y::poorest, 99, 0);
+            y.change(0, 1, 1);
+            e.row("now up", y::poorest, 0, 0);
         });
     }
 
@@ -282,6 +351,15 @@ final class TermEdges {
             planIs(z, 3, "0110");
             planIs(z, 4, "01101");
             planIs(z, 5, "");
+            // Its own last deed alone makes it the same again, on day 0 none does.
+            OppositeShores w = Tell.told("deed 0 0;deed 0 1;deed 0 0;opposite 2 1;pair 1;pair 1;delay 0;"
+                    + "treaty again or deed=2 and pair=1;");
+            planIs(w, 1, "11");
+            planIs(w, 3, "1111");
+            planIs(w, 4, "11111");
+            planIs(w, 5, "");
+            e.is("of pair 1", w.plan(1, 1) + Edges.plan(w), "12");
+            e.is("of pair 0 still", w.plan(0, 1) + Edges.plan(w), "211");
         });
         e.test("just so much (-100 to 100): how many;", () -> {
             OppositeShores x = Tell.told("deed 0 20;deed 0 -20;pair 0;delay 0;");
@@ -324,6 +402,11 @@ final class TermEdges {
             e.is("no shirker", x.well(0, 4), 14);
             x.turn(0);
             e.is("fog", x.well(0, 4), 12);
+            OppositeShores y = Tell.told("deed 0 0;".repeat(6) + "deed 9 0;deed 5 0;opposite 6 0;opposite 7 6;"
+                    + "pair 0;pair 0;delay 0;treaty again and pair=0 and deed=7;");
+            // Deed 6 gains 9 here; deed 7 gains 5, and 9 there, too, if it is done again.
+            e.row("again", i -> y.well(0, i + 1), 9, 19, 33, 47, 61, 75);
+            e.row("of pair 1", i -> y.well(1, i + 1), 9, 18, 27);
         });
         e.test("AN EXCHANGE of WAYS: each PAIR takes the WAY of one PAIR, each WAY by one: by which all those "
                 + "THERE together GAIN most in so many DAYS (0 to 100),", this::exchanges);
@@ -335,6 +418,12 @@ final class TermEdges {
             OppositeShores y = Tell.told("deed 0 0;deed 1 0;pair 1;pair 0;delay 0;treaty deed=1 and pair=1;");
             // Nobody has less: pair 0 gains nothing now, either.
             e.row("exchange", i -> y.exchange(100, i - 1), 100, 1, 0);
+            OppositeShores z = Tell.told("deed 0 0;deed 1 0;pair 0;pair 0;pair 1;delay 0;"
+                    + "treaty deed=1 and (pair<2 or day<10);");
+            e.row("the last one would have less", i -> z.exchange(100, i - 1), 10, 0, 1, 2);
+            OppositeShores w = Tell.told("deed 0 0;deed 1 0;pair 0;pair 1;pair 0;delay 0;"
+                    + "treaty deed=1 and (pair=0 or pair=2 or day<10);");
+            e.row("the second one would have less", i -> w.exchange(100, i - 1), 10, 0, 1, 2);
         });
         e.test("of like ones the first row (by PAIRS: whose WAY): how much; the row.", () -> {
             OppositeShores x = Tell.told("deed 1 0;" + "pair 0;".repeat(6));
@@ -359,6 +448,9 @@ final class TermEdges {
         e.row("each way by one", i -> y.exchange(100, i - 1), 500, 0, 1);
         OppositeShores z = Tell.told("deed -2 0;pair 0;");
         e.row("one pair", i -> z.exchange(100, i - 1), -200, 0);
+        // Ways of 1, 8 and 2 deeds: in 9 days they hold deed 1 never, twice, five times.
+        OppositeShores w = Tell.told("deed 0 0;deed 5 0;pair 0;pair 1 0 0 0 0 0 0 0;pair 1 0;delay 0;treaty pair=0;");
+        e.row("unlike lengths", i -> w.exchange(9, i - 1), 25, 2, 0, 1);
         e.is("no pairs", Tell.told("").exchange(100, -1), 0);
     }
 
@@ -434,6 +526,13 @@ final class TermEdges {
         x.see(1, 50, 1);
         // The contrary of 1 is to be idle: 1 is nobody's contrary.
         e.is("can't be", x.did(1, 50), 0);
+        OppositeShores y = Tell.told("deed 0 0;deed 0 0;deed 0 0;opposite 0 2;opposite 1 2;pair 0 1;delay 0;treaty again;");
+        e.is("nothing seen", y.did(0, 4), 7);
+        y.see(0, 4, 2);
+        // Here 0 1 0 1 0 1: by 1 on day 4 it would be as on day 3, by 0 on day 3 as on day 4.
+        e.is("the same again", y.did(0, 4), 2);
+        e.is("ahead of it the same", y.did(0, 3), 1);
+        e.is("behind it nothing helps", y.did(0, 5), 0);
     }
 
     private void compared() {

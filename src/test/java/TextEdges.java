@@ -128,7 +128,23 @@ final class TextEdges {
             x.sign(2);
             e.row("treaty 2", i -> x.does(0, 1, i), 1, 1);
             e.bad("treaty 1;".repeat(4), 2, 27);
+            ofEachPair();
         });
+    }
+
+    /** Three treaties that six pairs don't share: each is looked at behind the others. */
+    private void ofEachPair() {
+        OppositeShores x = Tell.told(D + D + "opposite 0 1;" + "pair 0;".repeat(6) + "delay 0;"
+                + "treaty pair=day;treaty pair+day=5;treaty day<pair;");
+        for (int treaty : new int[] {0, 1, 2, 0, 1, 2}) {
+            x.sign(treaty);
+            for (int i = 0; i < 36; i++) {
+                int pair = i / 6;
+                int day = i % 6;
+                boolean due = treaty == 0 ? pair == day : treaty == 1 ? pair + day == 5 : day < pair;
+                e.is("treaty " + treaty + " of pair " + pair + " on " + day, x.does(pair, 1, day), due ? 1 : 0);
+            }
+        }
     }
 
     private static int without() {
@@ -148,13 +164,14 @@ final class TextEdges {
             String cut = text.substring(0, 699) + "#";
             e.bad(cut, 1, 699);
         });
-        e.test("words (a .. z, the longest row)", () -> {
+        e.test("TOKENS: words (a .. z, the longest row)", () -> {
             e.fine("deed0 0;treaty day;treaty again;");
             e.bad("deeds 0 0;", 1, 0);
             e.bad("dee d 0 0;", 1, 0);
             e.bad("treaty dayday;", 3, 7);
             e.bad("treaty da;", 3, 7);
-            e.bad("treaty az;", 3, 7);
+            e.bad("treaty a;", 3, 7);
+            e.bad("treaty z;", 3, 7);
             // What stands just ahead of a and behind z, and capitals, is no letter.
             e.bad("treaty `;", 1, 7);
             e.bad("treaty {;", 1, 7);
