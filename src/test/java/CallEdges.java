@@ -825,11 +825,10 @@ final class CallEdges {
             x.see(1, 1, 0);
             x.delay(4);
         }
-        x.plan(0, 0);
-        String plan = Edges.plan(x);
+        e.is("a row", x.plan(0, 1), 1);
         x.restore();
         e.is("status isn't restored", x.count(11) + " " + x.count(12), "12 6");
-        e.is("the row is kept", Edges.plan(x), plan);
+        e.is("the row is kept", Edges.plan(x), "0");
         fewerActs();
     }
 

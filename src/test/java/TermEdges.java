@@ -106,6 +106,10 @@ final class TermEdges {
             // To be idle, as he must, is no fault.
             e.row("fined", i -> x.fines(0, i), 0, 1, 1, 2, 2);
             e.is("fined in all", x.fines(0, 100), 50);
+            OppositeShores y = Tell.told("deed 0 0;deed 0 0;opposite 0 1;pair 0;treaty day=3;");
+            y.shirk(0, true);
+            // Where there was no deed, and where he is free, he may be idle.
+            e.row("fined once", i -> y.fines(0, i), 0, 0, 0, 0, 0, 1, 1);
         });
         e.test("(What he does again is what he did, not what he had to do.)", () -> {
             OppositeShores x = Tell.told(ONE + "delay 0;weather 0 1;");
@@ -611,6 +615,11 @@ final class TermEdges {
             e.row("alike", i -> x.game(0, 1, 0, 2, i), 3, 1);
             e.row("alike, the other way about", i -> x.game(0, 1, 0, 20, i), 3, 0);
             e.row("all four", i -> x.game(0, 1, 0, 0, i), 4, 0);
+            e.row("both the second", i -> x.game(0, 1, 0, 3, i), 1, 11);
+            // By a treaty for pair 1 alone its double gains 9 by deed 1: to pair 0 both are alike.
+            OppositeShores y = Tell.told("deed 0 0;deed 0 0;deed 9 0;opposite 1 2;pair 0;pair 0;treaty pair=1;");
+            e.row("the first the first, the other the second", i -> y.game(0, 1, 0, 1, i), 1, 1);
+            e.row("the other way about", i -> y.game(1, 0, 0, 1, i), 1, 10);
         });
     }
 
