@@ -835,6 +835,7 @@ final class CallEdges {
     /** Behind the image other acts, at other places, and other things seen. */
     private void fewerActs() {
         OppositeShores x = Tell.told(TEXT);
+        x.shirk(1, true);
         x.change(1, 2, 0);
         x.turn(2);
         x.see(0, 1, 1);
@@ -848,7 +849,7 @@ final class CallEdges {
         x.see(1, 50, 0);
         x.see(1, 51, 0);
         e.is("restored", x.restore(), true);
-        e.is("acts", x.count(7), 2);
+        e.is("acts", x.count(7), 3);
         e.is("seen", x.count(8), 1);
         e.is("it is so", x.falsely(), 0);
         e.is("what he did", x.did(0, 0), 3);
@@ -856,6 +857,8 @@ final class CallEdges {
         e.row("weather", i -> x.fog(i) ? 1 : 0, 0, 0, 1);
         x.undo();
         e.row("way", i -> x.way(1, i), 0, 1, 1);
+        x.undo();
+        e.is("shirkers", x.count(6), 0);
         e.is("none is left", x.undo(), -1);
     }
 }

@@ -90,6 +90,10 @@ final class TermEdges {
             OppositeShores x = Tell.told(ONE + "treaty 0;");
             x.sign(-1);
             e.is("none in force", x.does(0, 1, 1), 1);
+            OppositeShores y = Tell.told("deed 0 0;deed 0 0;opposite 0 1;opposite 1 0;pair 0 1;delay 0;treaty 1;");
+            for (int day = 0; day < 100; day++) {
+                e.is("day " + day, y.does(0, 1, day), 1 - day % 2);
+            }
         });
         e.test("else he is idle, FREE.", () -> {
             OppositeShores x = Tell.told(ONE + "treaty 0;");
@@ -309,7 +313,8 @@ final class TermEdges {
             e.is("the last day", x.poorest(1), 99);
             e.is("alike on all days", x.poorest(0), 0);
             e.is("the first of some", Tell.told(late).poorest(1), 1);
-            e.is("no pairs", Tell.told("").poorest(1), 0);
+            e.is("no pairs", Tell.told("deed 0 -5;").poorest(1), 0);
+            e.is("one pair, and no idle one beside it", Tell.told("deed 0 5;deed 0 -1;pair 1;").poorest(0), 99);
             e.is("above 0 on all days", Tell.told("deed 0 5;pair 0;").poorest(0), 0);
             // Here 2 -1 1 -2 .. down to day 99, there for each deed the other one: 0 on day 0, then up.
             OppositeShores y = Tell.told("deed 0 0;deed 0 2;deed 0 -3;opposite 1 1;opposite 2 1;pair 1 2;");
@@ -336,6 +341,10 @@ final class TermEdges {
             OppositeShores y = Tell.told("deed 0 1;pair 0;delay 0;");
             planIs(y, 0, "");
             planIs(y, 1, "0");
+            // Of deeds that are told: each is answered by 1.
+            OppositeShores z = Tell.told("deed 0 0;deed 0 1;opposite 0 1;pair 0;delay 0;");
+            planIs(z, 0, "");
+            planIs(z, 3, "000");
         });
         e.test("on DAYS from 0 on in place of its WAY (nothing is done behind it: no more MUSTS), by which "
                 + "all GIFTS of the one THERE together, over the DAYS of the row and DELAY more, are", () -> {
@@ -411,6 +420,10 @@ final class TermEdges {
             // Deed 6 gains 9 here; deed 7 gains 5, and 9 there, too, if it is done again.
             e.row("again", i -> y.well(0, i + 1), 9, 19, 33, 47, 61, 75);
             e.row("of pair 1", i -> y.well(1, i + 1), 9, 18, 27);
+            // On day 0 nothing is done again: deed 7 alone, and not 5 here and 9 there.
+            OppositeShores z = Tell.told("deed 0 0;" + "deed 5 0;".repeat(6) + "deed 9 0;opposite 0 7;opposite 1 7;"
+                    + "opposite 2 7;opposite 3 7;opposite 4 7;opposite 5 7;opposite 6 7;pair 0;delay 0;treaty again;");
+            e.row("not again on day 0", i -> z.well(0, i + 1), 9, 27, 45);
         });
         e.test("AN EXCHANGE of WAYS: each PAIR takes the WAY of one PAIR, each WAY by one: by which all those "
                 + "THERE together GAIN most in so many DAYS (0 to 100),", this::exchanges);
@@ -512,6 +525,11 @@ final class TermEdges {
             x.forget();
             x.see(0, 1, 1);
             e.is("pair 0 doesn't", x.found(), 1);
+            x.forget();
+            x.see(0, 0, 1);
+            e.is("on day 0 he couldn't", x.found(), 0);
+            x.delay(0);
+            e.is("by another delay he could", x.found(), 1);
         });
     }
 
@@ -731,6 +749,11 @@ final class TermEdges {
             e.is("the first of like ones", Tell.told(text + "4;pair 1 1 1 0 0;").swap(0), 4);
             e.is("none is more", Tell.told(text + "7;pair 0 0 0 0 0 0 0 1;").swap(0), -1);
             e.is("one place", Tell.told(text + "0;pair 0;").swap(0), -1);
+            e.is("no other pair's", Tell.told(text + "0;pair 0 0 0 0 0 0 0 0;pair 1;").swap(0), -1);
+            OppositeShores x = Tell.told(text + "0;pair 0 1 1;");
+            e.is("of three", x.swap(0), 1);
+            Tell.tell(x, text + "0;pair 0;");
+            e.is("none of a text ahead", x.swap(0), -1);
         });
     }
 
@@ -762,6 +785,10 @@ final class TermEdges {
             e.is("1", x.helps(1), 1 + 4 + 8 + 16 + 32);
             e.is("2", x.helps(2), 0);
             e.is("no pairs", Tell.told("deed 0 0;").helps(0), 0);
+            OppositeShores y = Tell.told("deed 0 0;deed 1 0;opposite 0 1;pair 1;");
+            e.is("as much", y.helps(0), 0);
+            y.delay(3);
+            e.is("as much by another delay", y.helps(0), 0);
         });
         e.test("STATUS: how many calls were refused: 0 of TEXTS with a FAULT, 1 of ACTS, 2 of what is SEEN.", () -> {
             OppositeShores x = Tell.told(ONE);

@@ -77,6 +77,7 @@ final class TextEdges {
             e.is("six", x.count(1), 6);
             e.row("ways", i -> x.way(i, 0), 0, 1, 0, 1, 0, 1);
             e.bad(D + "pair 0;".repeat(7), 2, 51);
+            fullObject();
         });
         e.test("the WAY of the one HERE (1 to 8 DEEDS).", () -> {
             e.is("one", Tell.told(D + "pair 0;").way(0, -1), 1);
@@ -86,6 +87,40 @@ final class TextEdges {
             e.bad(D + "pair;", 1, 13);
             e.bad(D + "pair 0 0 0 0 0 0 0 0 0;", 2, 30);
         });
+    }
+
+    /** As much of all as there can be; nothing gains or gives anything. */
+    private void fullObject() {
+        OppositeShores x = Tell.told(D.repeat(8) + "pair 0 1 2 3 4 5 6 7;".repeat(6)
+                + "weather 1 0 1 0 1 0 1 0 1 0;delay 3;treaty 1;treaty deed;treaty day;");
+        for (int i = 0; i < 8; i++) {
+            x.see(5, 99 - i, x.does(5, 1, 99 - i));
+        }
+        e.is("falsely", x.falsely(), 0);
+        e.is("found", x.found(), 31);
+        e.is("did", x.did(5, 99), 255);
+        e.row("morning", i -> x.morning(5, 97, i), 0, 1);
+        e.is("plan", x.plan(5, 0) + Edges.plan(x), "10");
+        e.is("no plan", x.plan(5, 1) + Edges.plan(x), "-1");
+        e.is("well", x.well(5, 6), 0);
+        e.row("exchange", i -> x.exchange(100, i - 1), 0, 0, 1, 2, 3, 4, 5);
+        e.is("stop", x.stop(5), -1);
+        e.is("swap", x.swap(5), -1);
+        e.is("helps", x.helps(7), 0);
+        e.is("harms", x.harms(), -1);
+        e.is("best", x.best(), -1);
+        e.is("delayed", x.delayed(), 0);
+        e.is("compared", x.compared(2), 0);
+        e.is("even", x.even(), 0);
+        e.is("poorest", x.poorest(1), 0);
+        e.is("store", x.store(1, 99), 0);
+        e.is("waves", x.waves(0), 63);
+        e.is("ruined", x.ruined(), 0);
+        e.is("ring", x.ring(7), 1);
+        // Day 99's deed isn't answered: only what both do alike counts.
+        e.row("game", i -> x.game(5, 4, 99, 76, i), 2, 1);
+        e.row("years", i -> x.years(0, 4, i), 0, 0, 1);
+        e.is("idle", x.idle(5, 0), 13);
     }
 
     private void weatherDelayTreaties() {
@@ -167,7 +202,9 @@ final class TextEdges {
         e.test("TOKENS: words (a .. z, the longest row)", () -> {
             e.fine("deed0 0;treaty day;treaty again;");
             e.bad("deeds 0 0;", 1, 0);
+            e.bad("feed 0 0;", 1, 0);
             e.bad("dee d 0 0;", 1, 0);
+            e.bad("treaty say;", 3, 7);
             e.bad("treaty dayday;", 3, 7);
             e.bad("treaty da;", 3, 7);
             e.bad("treaty a;", 3, 7);
