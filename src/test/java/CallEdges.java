@@ -166,6 +166,10 @@ final class CallEdges {
         e.is("third", Tell.tell(x, text + "2<day;treaty 1;treaty 1;"), 0);
         e.row("third", i -> x.does(0, 1, i), 0, 0, 0, 1);
         e.row("counts", x::count, 2, 1, 1, 0, 3, 0);
+        e.is("longer", Tell.tell(x, text + "not 0;"), 0);
+        e.is("longer", x.does(0, 1, 0), 1);
+        e.is("shorter", Tell.tell(x, text + "1;"), 0);
+        e.is("shorter", x.does(0, 1, 0), 1);
         e.is("fourth", Tell.tell(x, "deed 0 0;pair 0 0;"), 0);
         e.is("its way", x.way(0, -1), 2);
         e.is("its delay", x.must(0, 0), -1);
