@@ -528,21 +528,31 @@ public final class OppositeShores {
 
         void split(int size) {
             tokens = 0;
-            int end = 0;
-            for (int start = 0; start < size; start = end) {
-                int sign = byteAt(start);
-                end = start + 1;
+            for (int place = 0; place < size; place++) {
+                int sign = byteAt(place);
                 if (isLetter(sign)) {
-                    end = endOfWord(start, size);
-                    add(WORD, start, end - start);
+                    addWord(place, size);
                 } else if (isDigit(sign)) {
-                    end = endOfNumber(start, size);
-                    add(end - start > 4 ? LONG_NUMBER : NUMBER, start, numberFrom(start, end));
+                    addNumber(place, size);
                 } else if (sign != ' ' && sign != 10) {
-                    add(SIGNS.indexOf((char) sign) >= 0 ? sign : NO_TOKEN, start, 0);
+                    add(SIGNS.indexOf((char) sign) >= 0 ? sign : NO_TOKEN, place, 0);
                 }
             }
             add(END, size, 0);
+        }
+
+        /** Only the first letter of a row begins a word: the others belong to it. */
+        private void addWord(int place, int size) {
+            if (!isLetter(byteAt(place - 1))) {
+                add(WORD, place, endOfWord(place, size) - place);
+            }
+        }
+
+        private void addNumber(int place, int size) {
+            if (!isDigit(byteAt(place - 1))) {
+                int end = endOfNumber(place, size);
+                add(end - place > 4 ? LONG_NUMBER : NUMBER, place, numberFrom(place, end));
+            }
         }
 
         private void add(int kind, int start, int value) {

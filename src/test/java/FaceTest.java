@@ -150,6 +150,7 @@ public final class FaceTest {
             T.is("has " + word, code.contains(word), false);
         }
         T.is("imports", code.split("\nimport ", -1).length + (code.startsWith("import ") ? 1 : 0), 2);
+        loops(code);
         int start = 0;
         String[] lines = all.split("\n");
         for (int i = 0; i < lines.length; i++) {
@@ -158,6 +159,18 @@ public final class FaceTest {
             }
             if (lines[i].matches(" {4}}| {8}}")) {
                 T.is("sixty lines at " + (i + 1), i - start < 60 || lines[i].startsWith("    }"), true);
+            }
+        }
+    }
+
+    /** Rule 9: a counter that is only stepped, against a bound, in the very line of the loop. */
+    private static void loops(String code) {
+        for (String line : code.split("\n")) {
+            if (line.matches(".*\\b(for|while|do)\\b [({].*")) {
+                boolean counted = line.matches(
+                        " *for \\(int (\\w+) = [^;]+; [^;]*\\b\\1\\b[^;]* [<>]=? [^;]+; \\1(\\+\\+|--| [-+]= \\d+)\\) \\{");
+                boolean bound = line.matches(" *while \\((\\w+) < \\w+ && .*\\) \\{");
+                T.is("a loop's end can be seen: " + line.strip(), counted || bound, true);
             }
         }
     }

@@ -147,13 +147,13 @@ public final class RandomTest {
         if (deeds > 5 && random.nextInt(3) > 0) {
             return null;
         }
-        int a = random.nextInt(15) == 0 ? odd() : random.nextInt(61) - 30;
+        int most = random.nextBoolean() ? 30 : 100;
+        int a = random.nextInt(15) == 0 ? odd() : random.nextInt(2 * most + 1) - most;
         return same("plan(" + p + "," + a + ")", () -> program.plan(p, a), () -> naive.plan(p, a));
     }
 
     private String well(int p) {
-        int most = deeds > 6 ? 4 : deeds > 4 ? 5 : 6;
-        int a = random.nextInt(10) == 0 ? random.nextInt(2) * 7 : 1 + random.nextInt(most);
+        int a = random.nextInt(10) == 0 ? random.nextInt(2) * 7 : 1 + random.nextInt(6);
         return same("well(" + p + "," + a + ")", () -> program.well(p, a), () -> naive.well(p, a));
     }
 
